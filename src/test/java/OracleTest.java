@@ -8,7 +8,7 @@ import java.util.Random;
 
 /**
  * Runs of calls by draws on PacedMap and on Oracle, which must answer alike.
- * Arguments: how many objects (300 without), the first seed (1 without).
+ * Arguments: how many objects (1000 without), the first seed (1 without).
  */
 public final class OracleTest {
     /** Name, weight and kinds of arguments of each call; see number(). */
@@ -41,7 +41,7 @@ public final class OracleTest {
     }
 
     public static void main(String[] args) throws Exception {
-        int many = args.length > 0 ? Integer.parseInt(args[0]) : 300;
+        int many = args.length > 0 ? Integer.parseInt(args[0]) : 1000;
         long first = args.length > 1 ? Long.parseLong(args[1]) : 1;
         Map<String, Integer> seen = new HashMap<>();
         for (long seed = first; seed < first + many; seed++) {
@@ -135,7 +135,7 @@ public final class OracleTest {
             case 'n': top = edge ? 21 : 9; break;
             case 'k': top = edge ? 13 : 6; break;
             case 'g': top = 5; break;
-            case 'd': top = edge ? 10000 : 300; break;
+            case 'd': top = edge ? 10000 : 1000; break;
             case 'e': return edge ? random.nextInt(205) - 102 : 6 * (random.nextInt(5) - 2);
             default: top = kind - '0'; break;
         }
