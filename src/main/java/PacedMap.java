@@ -1977,18 +1977,20 @@ public final class PacedMap {
             if (yards != NONE && walked >= yards) {
                 return;
             }
-            int here = row[depth];
-            if (here == goal) {
+            if (row[depth] == goal) {
                 yards = walked;
                 many = depth + 1;
                 System.arraycopy(row, 0, best, 0, many);
                 return;
             }
-            if (depth + 1 >= PLACES) {
-                return;
+            if (depth + 1 < PLACES) {
+                tryEachNext(depth, walked, seen);
             }
+        }
+
+        private void tryEachNext(int depth, int walked, int seen) {
             for (int next = 0; next < places; next++) {
-                int along = lengths[here * PLACES + next];
+                int along = lengths[row[depth] * PLACES + next];
                 if (along != NONE && !has(seen, next)) {
                     row[depth + 1] = next;
                     walkOn(depth + 1, walked + along, seen | (1 << next));

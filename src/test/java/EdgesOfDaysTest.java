@@ -45,6 +45,7 @@ public final class EdgesOfDaysTest {
         whenMisses();
         whenPaces();
         loopOneToNinetyNine();
+        loopLeftOpen();
         loopWithinLoop();
         stepsAtMostThreeHundred();
         whenAndLoopCountAsOne();
@@ -269,6 +270,11 @@ public final class EdgesOfDaysTest {
         fault("when paces >< 5;", 2, 12);
         fault("when paces ! 5;", 1, 11);
         fault("when paces a 5;", 2, 11);
+        // 59 to 62 are the signs' own numbers, as NUMBERS they are none.
+        for (int number = 59; number <= 62; number++) {
+            fault("when paces " + number + " 5;end;", 2, 11);
+            fault("any " + number + ";", 2, 4);
+        }
     }
 
     /** What each TOKEN comes to behind a row of others: those that may stand go on, all others are 2 (1 if they are none). */
@@ -616,6 +622,25 @@ public final class EdgesOfDaysTest {
         lived(TWO, "loop 1;loop 1;loop 1;go 0;end;end;end;go 0;", 5, 0, 2, 0, 0, 0);
         // Come to a second time it goes as often again.
         lived(TWO, "loop 2;loop 3;go 0;end;end;", 1 + 2 + 6, 0, 6, 0, 0, 0);
+    }
+
+    /** One that was left by stop, by the 300, has no part in what is lived behind it. */
+    private static void loopLeftOpen() {
+        PacedMap map = mapOf(TWO);
+        for (String left : new String[] {"loop 9;stop;end;", "loop 9;loop 99;go 0;end;end;", "any;loop 9;stop;end;"}) {
+            Due.days(map, left);
+            map.live(0);
+            Due.days(map, "when closed;strike 11;end;restore 11;");
+            lived(map, "when behind " + left, 0, 3, 2, 0, 0, 0, 0);
+            Due.days(map, "restore 11;when closed;strike 11;end;");
+            lived(map, "when behind one behind " + left, 0, 3, 2, 0, 0, 0, 0);
+            Due.days(map, "loop 2;strike 11;end;");
+            lived(map, "loop behind " + left, 0, 3, 2, 0, 0, 0, 0);
+            Due.days(map, left);
+        }
+        Due.days(map, "loop 5;restore 11;stop;end;");
+        lived(map, "stop", 0, 3, 1, 0, 0, 0, 0);
+        lived(map, "stop once more", 0, 3, 1, 0, 0, 0, 0);
     }
 
     /** A loop within loops, each as often as the others come to it; and when within them. */

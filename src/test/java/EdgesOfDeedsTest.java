@@ -274,6 +274,12 @@ public final class EdgesOfDeedsTest {
 
     /** "no LEG yet": and no NAME. */
     private static void settleNoLegNoName() {
+        PacedMap alone = new PacedMap();
+        alone.settle();
+        for (char name = 'a'; name <= 'z'; name++) {
+            Due.with("24: alone, no NAME " + name, alone, Due.days(alone, "when at " + name + ";end;"), -1, 9);
+            Due.is("24: alone, no such " + name, alone.fault(0), 3);
+        }
         PacedMap map = mapOf(Seen.TOWN);
         Due.with("24: its number", map, map.settle(), 4, 0);
         Due.with("24: nowhere", map, map.place(4, 0), -1, 6);

@@ -33,6 +33,8 @@ public final class EdgesOfDoubtsTest {
         askOfSeveralTheFirst();
         askTheFirstLessThanTheSecond();
         askFarEastAndNorth();
+        askOfTheLastPlace();
+        askCountsApartWhatLiesApart();
         Due.end("EdgesOfDoubtsTest");
     }
 
@@ -372,6 +374,16 @@ public final class EdgesOfDoubtsTest {
         ask(map, 1, 0, 2);
         map.tell(1, 0, 0);
         ask(map, 1, 0, 1);
+        // Of two ways both count, the first one, too: a and b lie alike by both, a and c by neither.
+        PacedMap two = mapOf(PAIR.replace("walker u", "place c;walker u") + "leg u a c east 1 north 3;");
+        Due.with("29: two ways", two, two.fits(1), 2, 0);
+        ask(two, 1, 0, 2);
+        // Whoever told nothing parts nothing: 24 and 576 ways, all alike.
+        PacedMap alike = mapOf("place a;place b;place c;walker u;walker v;walker w;leg u b c east 1 north 0;");
+        Due.with("29: 24 alike", alike, alike.fits(4), 24, 0);
+        ask(alike, 4, 1, 2);
+        Due.with("29: 576 alike", alike, alike.fits(6), 576, 0);
+        ask(alike, 6, 1, 2);
     }
 
     /** "of several the first by the one, then the other". */
@@ -412,5 +424,27 @@ public final class EdgesOfDoubtsTest {
         full.strike(6);
         // 3 times what is RIGHT by u and what is RIGHT by v: at most 8 alike, by 24 if there is one of them alone.
         ask(full, 3, 0, 4);
+    }
+
+    /** PLACE 6 of seven. */
+    private static void askOfTheLastPlace() {
+        String seven = "place a;place b;place c;place d;place e;place f;place g;walker u;";
+        ask(mapOf(seven + "leg u a b east 2 north 0;leg u a g east 1 north 3;"), 1, 0, 6);
+        ask(mapOf(seven + "leg u e f east 2 north 0;leg u g f east 1 north 3;"), 1, 4, 6);
+        ask(mapOf(seven + "leg u f g east 1 north 3;"), 1, 5, 6);
+    }
+
+    /** "the most by which the second one LIES as far": those that lie elsewhere are not counted with them, wherever that is. */
+    private static void askCountsApartWhatLiesApart() {
+        for (int east = 1; east <= 10; east++) {
+            PacedMap map = mapOf("place a;place b;place c;walker u;leg u a b east 2 north 0;leg u a c east 1 north 3;");
+            for (int north = east + 1; north <= 99; north += 3) {
+                // By all 24 FAULTS c lies elsewhere, as 0 < east < north; b lies alike by two each.
+                map.tell(1, -9 * east, north);
+                if (9 * east != north) {
+                    ask(map, 1, 0, 2);
+                }
+            }
+        }
     }
 }

@@ -158,6 +158,9 @@ public final class EdgesOfMapTest {
         PacedMap row = mapOf(SEVEN + "walker u;leg u a b east 1 north 0;leg u b c east 1 north 0;leg u c d east 1 north 0;"
             + "leg u d e east 1 north 0;leg u e f east 1 north 0;leg u f g east 1 north 0;");
         Due.is("13: all six of a row", row.told(9), 63);
+        row.strike(2);
+        Due.is("13: one that is STRUCK is none", row.told(9), 63 - 4);
+        row.restore(2);
         row.pace(0, 6, 0, 0, 0);
         Due.is("13: none of a ring", row.told(9), 0);
         row.strike(6);

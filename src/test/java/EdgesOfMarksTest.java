@@ -15,6 +15,7 @@ public final class EdgesOfMarksTest {
         aMarkIsAsAllWasThen();
         theMarkIsGoneThen();
         whatIsNotTakenBack();
+        nothingIsLeftOver();
         marksOutliveATown();
         eachStatusFromOneToNine();
         statusZeroElse();
@@ -148,6 +149,13 @@ public final class EdgesOfMarksTest {
         map.live(0);
         Due.with("45: b is PLACE 1", map, map.lived(1), 1, 0);
         Due.with("45: v is WALKER 1", map, map.walker(1, 3), 3, 0);
+        PacedMap full = mapOf("place a;place b;place c;place d;place e;place f;place g;walker u;walker v;walker w;walker x left;");
+        full.mark();
+        full.town(0);
+        full.undo();
+        Due.with("45: the last ones' names", full, Due.days(full, "when at g;end;believe x 4;"), 2, 0);
+        full.live(0);
+        Due.with("45: what was BELIEVED of the last one", full, full.lived(0), 1, 0);
     }
 
     /** A MARK of a TOWN of nothing. */
@@ -218,6 +226,25 @@ public final class EdgesOfMarksTest {
         Due.is("45: fault(1)", map.fault(1), 3);
         Due.with("45: lived()", map, map.lived(2), 1, 0);
         Due.is("45: the tape", map.feed(0, 0, 0, 0, 0), 40);
+    }
+
+    /** A TOWN, DAYS that are taken are as their TEXT tells, whatever mean() went through ahead, or a TEXT with a FAULT. */
+    private static void nothingIsLeftOver() {
+        Seen.Call[] calls = {m -> m.mean(0, 20), m -> Due.town(m, "odds 9;place z;walker y;place z;"), m -> Due.days(m, "loop 9;any;")};
+        for (int i = 0; i < calls.length; i++) {
+            PacedMap map = mapOf(Seen.TOWN);
+            Due.days(map, "go 0;strike 0;strike 1;strike 2;strike 3;strike 4;believe u 9;");
+            calls[i].on(map);
+            Due.with("10: a TOWN behind call " + i, map, Due.town(map, Seen.TOWN), 5, 0);
+            Due.with("11: DAYS behind call " + i, map, Due.days(map, "when at a;go 0;end;"), 2, 0);
+            PacedMap plain = mapOf(Seen.TOWN);
+            Due.days(plain, "when at a;go 0;end;");
+            if (i == 0) {
+                map.misread(1, 1);
+                plain.misread(1, 1);
+            }
+            Seen.alike("10: nothing is left over behind call " + i, map, plain, true);
+        }
     }
 
     /** A TOWN that is taken takes no MARK away. */

@@ -527,6 +527,18 @@ public final class EdgesOfTownTest {
             }
         }
         Due.is("10: the second walker is LEFT", map.walker(1, 1), 1);
+        PacedMap full = mapOf(SEVEN + "walker u turned 1;walker v turned 2;walker w turned 3;walker x left stride 3;", 0);
+        int[] faults = {1, 2, 3, 20};
+        for (int walker = 0; walker < 4; walker++) {
+            Due.is("10: FAULT of walker " + walker, full.walker(walker, 3), faults[walker]);
+            Due.with("11: his NAME", full, Due.days(full, "believe " + (char) ('u' + walker) + " 23;"), 1, 0);
+            full.live(0);
+            Due.is("11: it is his", full.walker(walker, 3), 23);
+        }
+        for (char name = 'a'; name <= 'g'; name++) {
+            Due.with("11: NAME " + name, full, Due.days(full, "when at " + name + ";stop;end;"), 2, 0);
+            Due.with("11: it is PLACE 0's or not", full, full.live(0), name == 'a' ? 2 : 1, 0);
+        }
     }
 
     /** "who, what is named must be told ahead": "a NAME that is no such one told ahead (a WALKER first .., then PLACES)". */

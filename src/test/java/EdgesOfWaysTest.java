@@ -338,6 +338,13 @@ public final class EdgesOfWaysTest {
         Due.fraction("35: crossed over", map, map.area(0, 4), 0, 1);
         corners(map, 0, 0, 1, 4);
         Due.fraction("35: a quarter", map, map.area(0, 3), 6, 1);
+        // b (4, 0), c (4, 6), d (0, 6): 24 and 24 less 24, each of them from another one to the next.
+        corners(map, 0, 1, 2, 3);
+        Due.fraction("35: without a", map, map.area(0, 3), 12, 1);
+        corners(map, 0, 3, 1, 2);
+        Due.fraction("35: without a, from d on", map, map.area(0, 3), 12, 1);
+        corners(map, 0, 2, 4, 1);
+        Due.fraction("35: c, e, b", map, map.area(0, 3), 6, 1);
         corners(map, 0, 1, 2, 4, 3);
         Due.fraction("35: from b on", map, map.area(0, 4), 6, 1);
         corners(map, 0, 0, 1, 2, 3, 0, 1, 2, 3);
