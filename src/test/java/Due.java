@@ -2,14 +2,14 @@ import java.nio.charset.StandardCharsets;
 import java.util.Arrays;
 
 /** What all tests of the project use: answers that are due, and texts brought to the tape. */
-final class Due {
+public final class Due {
     private static int wrong = 0;
     private static int asked = 0;
 
     private Due() {
     }
 
-    static void is(String what, long got, long want) {
+    public static void is(String what, long got, long want) {
         asked++;
         if (got != want) {
             wrong++;
@@ -17,7 +17,7 @@ final class Due {
         }
     }
 
-    static void is(String what, boolean got, boolean want) {
+    public static void is(String what, boolean got, boolean want) {
         is(what, got ? 1 : 0, want ? 1 : 0);
     }
 
